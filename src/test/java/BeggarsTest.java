@@ -115,12 +115,15 @@ public final class BeggarsTest {
             due.is("given(" + b + ", 5, 4, 5)", x.given(b, 5, 4, 5), atFour[b]);
             due.is("given(" + b + ", 5, 5, 0)", x.given(b, 5, 5, 0), withoutGuilt[b]);
         }
+        due.is("singing at 9", x.given(3, 9, 9, 9), 9 + 2 + 3);
         due.is("proud at 3", x.given(5, 9, 0, 3), 3 + 2 - 1);
         due.is("proud at 2", x.given(5, 9, 0, 2), 0);
         x.set(5, 2, 0);
         due.is("proud, 0 at least", x.given(5, 1, 0, 8), 0);
         x.rule(1, 1);
         due.is("singing when wet", x.given(3, 5, 5, 5), 2);
+        due.is("singing at 9 when wet", x.given(3, 9, 9, 9), 7);
+        due.is("singing at 9 when wet, less guilt", x.given(3, 9, 9, 8), 6);
         due.is("blind when wet", x.given(1, 5, 5, 5), 5);
         int[][] wrong = {{6, 1, 0, 0}, {-1, 1, 0, 0}, {0, 0, 0, 0}, {0, 10, 0, 0}, {0, 1, -1, 0}, {0, 1, 10, 0}, {0, 1, 0, -1}, {0, 1, 0, 10}};
         for (int[] w : wrong) {
@@ -144,6 +147,22 @@ public final class BeggarsTest {
         due.is("by another skill", x.given(0, 3, 0, 9), 17);
         Due.text(x, "alms g+c");
         due.is("by the text told last", x.given(0, 3, 0, 7), 10);
+        Due.text(x, "alms c*4+g*2+s*2");
+        for (int time = 0; time < 2; time++) {
+            everyGift(x);
+        }
+    }
+
+    /** All that can be asked of a text, as it may be remembered. */
+    private static void everyGift(BeggarCorners x) {
+        for (int s = 0; s <= 20; s++) {
+            x.set(0, 2, s);
+            for (int c = 1; c <= 9; c++) {
+                for (int g = 0; g <= 9; g++) {
+                    due.is("SKILL " + s + ", given(0, " + c + ", 0, " + g + ")", x.given(0, c, 0, g), c * 4 + g * 2 + s * 2);
+                }
+            }
+        }
     }
 
     private static void as() {
@@ -220,7 +239,8 @@ public final class BeggarsTest {
             due.is("rule(" + what + ", most and 1)", x.rule(what, most[what] + 1), Due.BAD);
             due.is("rule(" + what + ", -1)", x.rule(what, -1), Due.BAD);
             due.is("count of it", x.count(2 + what), most[what]);
-            due.is("rule(" + what + ", 0)", x.rule(what, 0), most[what]);
+            due.is("rule(" + what + ", 1)", x.rule(what, 1), most[what]);
+            due.is("rule(" + what + ", 0)", x.rule(what, 0), 1);
             due.is("count of it", x.count(2 + what), 0);
         }
         due.is("rule(3, 0)", x.rule(3, 0), Due.BAD);

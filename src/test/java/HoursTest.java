@@ -70,6 +70,7 @@ public final class HoursTest {
         due.is("the proud one at a guilt of 3", x.told(3, 3), 2);
         due.is("at a guilt of 0, nothing", x.told(2, 3), 0);
         nothingSpendsNoGuilt();
+        oneCoinIsSomething();
         due.is("hours(0)", x.hours(0), Due.BAD);
         due.is("hours(101)", x.hours(101), Due.BAD);
         due.is("THE HOUR", x.count(1), 1);
@@ -87,6 +88,14 @@ public final class HoursTest {
         due.is("and spends no guilt", x.told(1, 3), 9);
         due.is("as the next one does", x.told(2, 3), 6);
         due.is("its hats", x.told(0, 4), 0);
+    }
+
+    private static void oneCoinIsSomething() {
+        BeggarCorners x = row();
+        Due.text(x, "alms 1+(g<9)");
+        x.seed(DOWN);
+        due.is("who is given 1 has a hat", x.hours(1), 3);
+        due.is("and spends guilt", x.told(1, 3), 2);
     }
 
     private static void weather() {
@@ -178,6 +187,7 @@ public final class HoursTest {
         x.rent(5, 9);
         x.rent(4, 9);
         x.seed(DOWN);
+        due.is("behind(0, 6)", x.behind(0, 6), 0);
         due.is("behind(0, 0)", x.behind(0, 0), 0);
         due.is("behind(1, 0)", x.behind(1, 0), 0);
         due.is("behind(1, 1)", x.behind(1, 1), 18);
@@ -278,11 +288,12 @@ public final class HoursTest {
         Due.text(x, "alms g*(1-(s=10))");
         due.is("who is given nothing takes nothing", x.takes(0, 3, 1), 0);
         x = row();
-        for (int i = 0; i < 4; i++) {
+        for (int i = 0; i < 3; i++) {
             x.beggar(1, 8, 0);
         }
+        x.beggar(0, 5, 0);
         x.seed(DOWN);
-        due.is("a ninth one", x.takes(0, 5, 1), 3 + 3);
+        due.is("a ninth one, behind two on the first corner", x.takes(0, 5, 1), 3);
         due.is("there are eight", x.count(0), 8);
         int[][] wrong = {{-1, 0, 1}, {6, 0, 1}, {0, -1, 1}, {0, 8, 1}, {0, 0, 0}, {0, 0, 61}};
         for (int[] w : wrong) {
@@ -310,6 +321,11 @@ public final class HoursTest {
         due.is("RENT stays", x.rent(5, 9), 9);
         x.set(0, 1, 8);
         due.is("one at home is below 0", x.bestRent(1, 0), Due.NONE);
+        x = row();
+        Due.text(x, "alms 99");
+        x.seed(DOWN);
+        due.is("the greatest rent", x.bestRent(1, 0), 9);
+        due.is("three pay 9", x.bestRent(1, 1), 27);
         due.is("bestRent(0, 0)", x.bestRent(0, 0), Due.BAD);
         due.is("bestRent(61, 0)", x.bestRent(61, 0), Due.BAD);
         due.is("bestRent(1, 2)", x.bestRent(1, 2), Due.BAD);
@@ -330,6 +346,14 @@ public final class HoursTest {
         due.is("of several the least", x.mourned(1, 0), 2);
         x.set(2, 2, 19);
         due.is("where the second one stands", x.mourned(1, 0), 4);
+        x.set(1, 1, 0);
+        due.is("at the first corner", x.mourned(1, 0), 0);
+        x.set(1, 1, 7);
+        Due.text(x, "alms 5*(c=9)*(g=9)*(s=20)");
+        due.is("at the last corner", x.mourned(1, 0), 7);
+        due.is("PURSES", x.mourned(1, 1), 5);
+        Due.text(x, "alms (c=9)*(g=9)*s");
+        x.set(1, 1, 4);
         x.rule(2, 0);
         due.is("in the place of another funeral", x.mourned(1, 1), 20);
         due.is("which stays", x.count(4), 0);
@@ -373,6 +397,13 @@ public final class HoursTest {
         x.sheet(1, 0, 0);
         due.is("a row of no places", x.stood(1, 0, 0), 0);
         due.is("a row of no places", x.stood(1, 0, 1), 0);
+        for (int corner = 0; corner < 8; corner++) {
+            x.rent(corner, 9);
+        }
+        Due.text(x, "alms 0");
+        x.sheet(1, 1, 5);
+        due.is("nothing ever: at home", x.stood(1, 0, 0), 8);
+        due.is("nothing ever: at home", x.stood(1, 0, 1), 0);
         due.is("they stay where they are", x.told(2, 1), 2);
     }
 

@@ -93,6 +93,11 @@ public final class RowsTest {
         int hats = x.behind(1, 2);
         tellAll(x, purses, hats);
         due.is("by the new image", x.check(1), 0);
+        int manyPurses = x.behind(2, 0);
+        int manyHats = x.behind(2, 2);
+        x.hours(9);
+        tellAll(x, purses, hats, manyPurses, manyHats);
+        due.is("by the image, its hats", x.check(2), 0);
     }
 
     private static void checkAtTheEnd() {

@@ -80,6 +80,12 @@ public final class TextsTest {
         fault("Fee c", 0);
         fault("(fee c)", 0);
         fault("5", 0);
+        fault("feez c", 0);
+        fault("afee c", 0);
+        fault("tee c", 0);
+        fault("fea c", 0);
+        fault("fe c", 0);
+        fault("fines p", 0);
         fault("fee", 3);
         fault("fee  ", 5);
         fault("fee c+", 6);
@@ -168,6 +174,13 @@ public final class TextsTest {
         value("2=2", 1);
         value("2=1", 0);
         value("1+1=2", 1);
+        value("2<2", 0);
+        value("2>2", 0);
+        value("1&3", 1);
+        value("3&1", 1);
+        value("0&3", 0);
+        value("1|0", 1);
+        value("0|1", 1);
         value("5&3", 1);
         value("5&0", 0);
         value("5|0", 1);
@@ -230,6 +243,7 @@ public final class TextsTest {
         BeggarCorners x = new BeggarCorners();
         due.is("why(0)", x.why(0), Due.NONE);
         Due.text(x, "alms 1");
+        due.is("why(0)", x.why(0), 0);
         Due.text(x, "fine 1");
         Due.text(x, "alms 2");
         Due.text(x, "alms +");
