@@ -147,19 +147,23 @@ public final class BeggarsTest {
         due.is("by another skill", x.given(0, 3, 0, 9), 17);
         Due.text(x, "alms g+c");
         due.is("by the text told last", x.given(0, 3, 0, 7), 10);
-        Due.text(x, "alms c*4+g*2+s*2");
-        for (int time = 0; time < 2; time++) {
-            everyGift(x);
+        for (int s = 0; s <= 20; s += 2) {
+            everyGift(s);
         }
     }
 
-    /** All that can be asked of a text, as it may be remembered. */
-    private static void everyGift(BeggarCorners x) {
-        for (int s = 0; s <= 20; s++) {
-            x.set(0, 2, s);
-            for (int c = 1; c <= 9; c++) {
-                for (int g = 0; g <= 9; g++) {
-                    due.is("SKILL " + s + ", given(0, " + c + ", 0, " + g + ")", x.given(0, c, 0, g), c * 4 + g * 2 + s * 2);
+    /** All that can be asked of a text for two skills, twice, as it may be remembered. */
+    private static void everyGift(int least) {
+        BeggarCorners x = new BeggarCorners();
+        x.beggar(0, 0, 0);
+        Due.text(x, "alms c*4+g*2+s*2");
+        for (int time = 0; time < 2; time++) {
+            for (int s = least; s <= Math.min(least + 1, 20); s++) {
+                x.set(0, 2, s);
+                for (int c = 1; c <= 9; c++) {
+                    for (int g = 0; g <= 9; g++) {
+                        due.is("SKILL " + s + ", given(0, " + c + ", 0, " + g + ")", x.given(0, c, 0, g), c * 4 + g * 2 + s * 2);
+                    }
                 }
             }
         }

@@ -1,3 +1,4 @@
+import java.util.List;
 import java.util.function.Predicate;
 
 /** What the tests share: answers held against those that are due, texts on the tape, seeds by what they draw. */
@@ -7,19 +8,40 @@ final class Due {
 
     private int asked = 0;
     private int wrong = 0;
-    private int promise = 0;
+    private String said = "";
 
     /** What follows tests this promise. */
     void promise(int number) {
-        promise = number;
+        said = "promise " + number;
+    }
+
+    /** What follows tests this sentence of the document's terms. */
+    void sentence(String words) {
+        said = "\"" + words + "\"";
     }
 
     void is(String call, int got, int want) {
         asked++;
         if (got != want) {
             wrong++;
-            System.out.println("promise " + promise + ": " + call + " answered " + got + ", due is " + want);
+            System.out.println(said + ": " + call + " answered " + got + ", due is " + want);
         }
+    }
+
+    void same(String what, List<String> got, List<String> want) {
+        asked++;
+        if (!got.equals(want)) {
+            wrong++;
+            int i = 0;
+            while (i < got.size() && i < want.size() && got.get(i).equals(want.get(i))) {
+                i++;
+            }
+            System.out.println(said + ": " + what + " there is '" + lineAt(got, i) + "', due is '" + lineAt(want, i) + "'");
+        }
+    }
+
+    private static String lineAt(List<String> lines, int i) {
+        return i < lines.size() ? lines.get(i) : "";
     }
 
     void end() {
@@ -70,6 +92,13 @@ final class Due {
     /** Whether a passer of the hour (from 0 on) goes from one corner to the other. */
     static boolean goes(int[] draws, int passer, int from, int to) {
         return draws[1 + 4 * passer] % 8 == from && draws[2 + 4 * passer] % 8 == to;
+    }
+
+    /** Whether a passer of the hour keeps to the corners from the one to the other. */
+    static boolean within(int[] draws, int passer, int least, int most) {
+        int from = draws[1 + 4 * passer] % 8;
+        int to = draws[2 + 4 * passer] % 8;
+        return Math.min(from, to) >= least && Math.max(from, to) <= most;
     }
 
     static int coins(int[] draws, int passer) {
