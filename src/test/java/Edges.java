@@ -43,6 +43,10 @@ final class Edges {
 
     /** Refused, and nothing has changed behind it. */
     void refused(int want, String call, int... with) {
+        changesNothing(want, call, with);
+    }
+
+    void changesNothing(int want, String call, int... with) {
         refusedBut("nothing", want, call, with);
     }
 

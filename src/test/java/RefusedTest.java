@@ -14,6 +14,8 @@ public final class RefusedTest {
         copies();
         slots();
         rows();
+        looks();
+        thoughts();
         imageBehindRefusals();
         due.end();
     }
@@ -49,7 +51,7 @@ public final class RefusedTest {
         due.promise(10);
         crowded.refused(Due.BAD, "deal", 0);
         crowded.refused(Due.BAD, "deal", 9);
-        crowded.refused(0, "deal", 8);
+        crowded.changesNothing(0, "deal", 8);
     }
 
     /** One who has paid all that it has, and more. */
@@ -260,6 +262,48 @@ public final class RefusedTest {
         due.promise(40);
         imageless.refused(Due.NO, "back");
         empty.refused(Due.NO, "back");
+    }
+
+    /** What only tells something changes nothing. */
+    private static void looks() {
+        due.sentence("and changes nothing");
+        BeggarCorners x = Scene.crowded();
+        crowded.changesNothing(x.told(2, 3), "told", 2, 3);
+        crowded.changesNothing(9 / 3 / 2, "given", 3, 9, 9, 9);
+        crowded.changesNothing(7, "as", 3, 1);
+        crowded.changesNothing(x.guild(2), "guild", 2);
+        crowded.changesNothing(13, "fee");
+        crowded.changesNothing(2 * x.told(2, 3) - x.told(2, 4), "fine", 2);
+        crowded.changesNothing(96, "trim", 96);
+        crowded.changesNothing(1, "textTold", 13, 0);
+        crowded.changesNothing(13, "why", 1);
+        crowded.changesNothing(0, "reads", 0);
+        crowded.changesNothing(0, "copy", 0, 4, 0, 0, 0);
+        crowded.changesNothing(4, "copy", 0, 0, 0, 0, 4);
+        crowded.changesNothing(2 * (7 + 6), "ask", 0, 1);
+        crowded.changesNothing(-21, "item", 1, 3);
+        crowded.changesNothing(-3, "rest", 2, 4);
+        crowded.changesNothing(96, "count", 7);
+    }
+
+    /** Nobody on a corner is given anything; those at 1, 3 and 7 pay 5, 3 and 9. */
+    private static void thoughts() {
+        due.sentence("(All this is only thought, from now on, z as it is, without the bound of THE HOUR: nothing changes.)");
+        BeggarCorners x = Scene.crowded();
+        int purses = x.guild(0);
+        crowded.changesNothing(purses - 100 * 17, "behind", 100, 0);
+        crowded.changesNothing(x.guild(1) + 100 * 17, "behind", 100, 1);
+        crowded.changesNothing(-900, "behind", 100, 3 + 7);
+        crowded.changesNothing(0, "best", 0, 40, 0);
+        crowded.changesNothing(x.told(0, 3), "best", 0, 40, 1);
+        crowded.changesNothing((0 * 8 + 2) * 8 + 4, "letting", 4, 0);
+        crowded.changesNothing(purses - 9 * 4, "letting", 4, 1);
+        crowded.changesNothing(0, "takes", 3, 5, 60);
+        crowded.changesNothing(0, "bestRent", 60, 0);
+        crowded.changesNothing(x.guild(1), "bestRent", 60, 1);
+        crowded.changesNothing(0, "mourned", 60, 0);
+        crowded.changesNothing(purses - 60 * 17, "mourned", 60, 1);
+        crowded.changesNothing(0, "stood", 0, 0, 0);
     }
 
     private static void noneWait(String what, BeggarCorners x, int n, int answer) {
