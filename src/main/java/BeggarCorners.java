@@ -34,8 +34,8 @@ public final class BeggarCorners {
     private final Street image = new Street();
     private boolean imageKept = false;
 
-    private final Tape tape = new Tape();
-    private final Reader reader = new Reader(tape);
+    private final Reader reader = new Reader();
+    private final Tape tape = reader.tape;
     private final Text[] texts = new Text[MOST_TEXTS];
     private final Alms alms = new Alms();
 
@@ -1006,7 +1006,7 @@ public final class BeggarCorners {
         }
     }
 
-    /** Reads the tape as a text, one word or sign ahead. */
+    /** Reads its tape as a text, one word or sign ahead. */
     private static final class Reader {
         /** Steps: a number itself; a name as -1, -2, -3; an operator as its sign below 0. */
         static final int LAST_NAME = -3;
@@ -1014,7 +1014,7 @@ public final class BeggarCorners {
         private static final int LOOSEST = 0, TESTS = 2, TIGHTEST = 4;
         private static final int MOST_OPEN = 8, MOST_NOTS = 8, MOST_DIGITS = 4;
 
-        private final Tape tape;
+        final Tape tape = new Tape();
         private int sort = SIGN;
         private int start = 0;
         private int stop = 0;
@@ -1023,10 +1023,6 @@ public final class BeggarCorners {
         private final int[] steps = new int[MOST_BYTES];
         private int length = 0;
         private int pieces = 0;
-
-        Reader(Tape tape) {
-            this.tape = tape;
-        }
 
         /** The place of the first fault; below 0 if the tape is a text. */
         int findFault() {
