@@ -1,40 +1,23 @@
-import java.lang.reflect.InvocationTargetException;
-import java.lang.reflect.Method;
 import java.util.ArrayList;
-import java.util.HashMap;
 import java.util.List;
-import java.util.Map;
 import java.util.Random;
 
 /** Runs of calls by lot on the class and on PlainModel: both must answer the same, call by call. */
 public final class ModelTest {
     private static final int RUNS = Integer.getInteger("beggar.runs", 1500);
-    private static final int CALLS = 512;
-    private static final Map<String, Method> OF_CLASS = new HashMap<>();
-    private static final Map<String, Method> OF_MODEL = new HashMap<>();
-    private static final List<String> NAMES = new ArrayList<>();
+    private static final List<String> NAMES = Twins.names();
     private static final int[] EDGES = {-1, 0, 1, 2, 3, 4, 5, 6, 7, 8, 9, 10, 11, 14, 20, 21, 24, 25, 30, 31, 40, 41, 60, 61, 96,
         97, 100, 101, -2, -5, Integer.MIN_VALUE, Integer.MAX_VALUE, -1000000005, 99999, 100000, -99999, -100000, 32768, 65535, 70000};
 
     private final Random lot;
-    private final BeggarCorners ours = new BeggarCorners();
-    private final PlainModel model = new PlainModel();
-    private final List<String> log = new ArrayList<>();
-    private int calls = 0;
+    private final Twins twins = new Twins();
+    private final PlainModel model = twins.model;
 
     private ModelTest(long seed) {
         lot = new Random(seed);
     }
 
-    public static void main(String[] args) throws Exception {
-        for (Method m : BeggarCorners.class.getDeclaredMethods()) {
-            if (java.lang.reflect.Modifier.isPublic(m.getModifiers())) {
-                OF_CLASS.put(m.getName(), m);
-                OF_MODEL.put(m.getName(), PlainModel.class.getMethod(m.getName(), m.getParameterTypes()));
-                NAMES.add(m.getName());
-            }
-        }
-        NAMES.sort(null);
+    public static void main(String[] args) {
         for (int run = 0; run < RUNS; run++) {
             if (!new ModelTest(run).passes()) {
                 System.out.println("run " + run + " differs");
@@ -44,12 +27,12 @@ public final class ModelTest {
         System.out.println(RUNS + " runs by lot are answered as by the model");
     }
 
-    private boolean passes() throws Exception {
+    private boolean passes() {
         List<String> often = new ArrayList<>();
         for (int i = 0; i < 6; i++) {
             often.add(NAMES.get(lot.nextInt(NAMES.size())));
         }
-        while (calls < CALLS) {
+        while (twins.haveCallsLeft()) {
             String name = lot.nextInt(3) == 0 ? often.get(lot.nextInt(often.size())) : NAMES.get(lot.nextInt(NAMES.size()));
             boolean same;
             if (name.equals("text") || (name.equals("feed") && lot.nextInt(3) > 0)) {
@@ -70,30 +53,12 @@ public final class ModelTest {
         return List.of("letting", "stood", "bestRent", "mourned", "best", "takes").contains(name);
     }
 
-    private boolean call(String name, int... args) throws Exception {
-        Object[] boxed = new Object[args.length];
-        for (int i = 0; i < args.length; i++) {
-            boxed[i] = args[i];
-        }
-        calls++;
-        int want = (Integer) OF_MODEL.get(name).invoke(model, boxed);
-        int got;
-        try {
-            got = (Integer) OF_CLASS.get(name).invoke(ours, boxed);
-        } catch (InvocationTargetException e) {
-            e.getCause().printStackTrace();
-            got = Integer.MIN_VALUE;
-        }
-        log.add(name + java.util.Arrays.toString(args) + " " + got);
-        if (got != want) {
-            log.forEach(System.out::println);
-            System.out.println("due is " + want);
-        }
-        return got == want;
+    private boolean call(String name, int... args) {
+        return twins.call(name, args);
     }
 
     private int[] argumentsOf(String name) {
-        int[] args = new int[OF_CLASS.get(name).getParameterCount()];
+        int[] args = new int[Twins.argumentsOf(name)];
         boolean wild = lot.nextInt(8) == 0;
         for (int i = 0; i < args.length; i++) {
             args[i] = wild && lot.nextInt(2) == 0 ? EDGES[lot.nextInt(EDGES.length)] : likely(name, i, args);
@@ -144,7 +109,7 @@ public final class ModelTest {
     }
 
     /** Numbers wait that are the hours told, or nearly so. */
-    private boolean checks() throws Exception {
+    private boolean checks() {
         if (lot.nextInt(3) > 0 && !call("keep")) {
             return false;
         }
@@ -161,7 +126,7 @@ public final class ModelTest {
 
     // ---- texts by lot
 
-    private boolean readsText() throws Exception {
+    private boolean readsText() {
         if (model.count(7) != 0 && lot.nextInt(4) > 0 && !call("trim", 0)) {
             return false;
         }
